@@ -69,8 +69,11 @@ final class PartTest {
         Check.refusedArgument("within it", () -> x.part(2, 104, 0, 0, 0));
         Check.refusedArgument("all round it", () -> x.part(1, 90, 40, 0, 0));
         Check.refusedArgument("the same", () -> x.part(0, 100, 10, 0, 0));
-        Check.due("close ahead of it", x.part(0, 90, 10, 0, 0), 1);
-        Check.due("close behind it", x.part(0, 110, 10, 0, 0), 2);
+        x.part(0, 3, 1, 0, 0);
+        Check.refusedArgument("from the first place on", () -> x.part(0, 0, 4, 0, 0));
+        Check.due("close ahead of it", x.part(0, 90, 10, 0, 0), 2);
+        Check.due("close behind it", x.part(0, 110, 10, 0, 0), 3);
+        Check.due("from the first place on, close ahead", x.part(0, 0, 3, 0, 0), 4);
     }
 
     private static void theMapHasAnEnd() {

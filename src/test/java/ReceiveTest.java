@@ -38,6 +38,7 @@ final class ReceiveTest {
         x.part(Kinds.SERIAL, 0, 0, 1, 0);
         x.write(2, 1);
         x.receive(0, 3);
+        Check.due("one is there to be read", x.count(8), 1);
         Check.due("a receive alone raises no line", x.asks(1), 0);
         x.step(1);
         Check.due("the step behind it does", x.asks(1), 3);

@@ -127,9 +127,15 @@ final class RowsTest {
         x.write(1, 2);
         x.step(9);
         x.reset();
+        Check.due("it is not at work", x.read(1), 0);
         x.step(20);
         Check.due("it is not done", x.read(2), 0);
         work(x, 0, 1);
         Check.due("the row is as it was", x.read(3), 0);
+        x.write(3, 5);
+        work(x, 0, 2);
+        x.write(3, 0);
+        work(x, 0, 1);
+        Check.due("it works as at first", x.read(3), 5);
     }
 }

@@ -73,6 +73,10 @@ final class TimerTest {
         x.write(2, 4);
         x.write(3, 0);
         Check.due("not fired any more", x.asks(6), 0);
+        x.write(2, 3);
+        x.write(0, 0);
+        x.step(3);
+        Check.due("it fired and goes on, but asks not", x.asks(6), 0);
         SystemParts y = timer(2, 5);
         Check.due("not yet", y.asks(6), 0);
         y.step(1);
