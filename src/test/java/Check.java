@@ -1,3 +1,5 @@
+import java.util.List;
+
 /** Compares answers with what is due, and ends a test with exit code 1 if one was wrong. */
 final class Check {
     private static int looked = 0;
@@ -20,6 +22,22 @@ final class Check {
 
     static void due(String what, boolean got, boolean want) {
         due(what, got ? 1 : 0, want ? 1 : 0);
+    }
+
+    /** Tells the first answer in which two lists are not the same. */
+    static void same(String what, List<String> got, List<String> want) {
+        looked++;
+        if (got.equals(want)) {
+            return;
+        }
+        wrong++;
+        int i = 0;
+        while (i < got.size() && i < want.size() && got.get(i).equals(want.get(i))) {
+            i++;
+        }
+        String gotThere = i < got.size() ? got.get(i) : "nothing";
+        String wantThere = i < want.size() ? want.get(i) : "nothing";
+        System.out.println(what + " left " + gotThere + ", due is " + wantThere);
     }
 
     /** The class must be the very one: what the machine throws is often a class below it. */
