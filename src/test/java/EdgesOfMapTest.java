@@ -140,6 +140,9 @@ final class EdgesOfMapTest {
         Check.refusedArgument("all round a small one", () -> x.part(Kinds.STORE, 2000, 64, 0, 0));
         Check.refusedArgument("up to it", () -> x.part(Kinds.STORE, 2000, 31, 0, 0));
         Check.due("up to the place ahead of it", x.part(Kinds.STORE, 2000, 30, 0, 0), 4);
+        x.part(Kinds.STORE, 3, 1, 0, 0);
+        Check.refusedArgument("from the first place up to it", () -> x.part(Kinds.STORE, 0, 4, 0, 0));
+        Check.due("from the first place up to the one ahead of it", x.part(Kinds.STORE, 0, 3, 0, 0), 6);
     }
 
     /** "a LINE (0 .. 15) by which it may ask". */

@@ -19,6 +19,7 @@ final class EdgesOfStepsTest {
         howManyStepsAWriteTook();
         accessesThatAreReset();
         linesBehindAFault();
+        theLastCallOfAnObject();
         Check.end();
     }
 
@@ -275,5 +276,15 @@ final class EdgesOfStepsTest {
         Check.due("no step, so no lines", x.asks(5), 0);
         x.step(1);
         Check.due("behind a step", x.asks(5), 3);
+    }
+
+    /** "An object is used for at most 512 calls": the 512th is answered like the others. */
+    private static void theLastCallOfAnObject() {
+        SystemParts x = new SystemParts();
+        x.part(Kinds.COUNTS, 0, 0, 0, 7);
+        for (int i = 0; i < 510; i++) {
+            x.step(1000);
+        }
+        Check.due("the 512th call", x.read(0), 510008);
     }
 }
